@@ -35,7 +35,7 @@ public final class ApproverWins {
         for (int s = 0; s < SHEETS; s++) {
             sheets[s] = new Sheet();
         }
-        course.walk(gang, names, terms.strong, terms.wins, terms.bribe);
+        course.setOut(terms.strong, terms.wins);
     }
 
     // ---- felons, names
@@ -759,8 +759,9 @@ public final class ApproverWins {
         int goal;
         long harmAbove;
 
-        void walk(Gang gang, Names names, int strongAtFirst, int wins, int bribe) {
-            length = names.size;
+        /** Ahead of any NAME. */
+        void setOut(int strongAtFirst, int wins) {
+            length = 0;
             goal = wins;
             harmAbove = 0;
             strong[0] = strongAtFirst;
@@ -770,6 +771,11 @@ public final class ApproverWins {
             for (int felon = 0; felon < FELONS; felon++) {
                 fates[felon] = NONE;
             }
+        }
+
+        void walk(Gang gang, Names names, int strongAtFirst, int wins, int bribe) {
+            setOut(strongAtFirst, wins);
+            length = names.size;
             for (int i = 0; i < length; i++) {
                 int who = names.whoAt(i);
                 boolean isVoid = won[i] >= goal || !gang.has(who) || fateOf(who) != NONE;
