@@ -36,6 +36,7 @@ public final class BoundariesTest {
         worst();
         fate();
         order();
+        orderAnew();
         best();
         price();
         rule();
@@ -317,6 +318,37 @@ public final class BoundariesTest {
         x = of("d00g.;d00g.;d00g.;d00g.;d00g.;d00g.;d00g.;c00g.", "", 5, 1, 5);
         due("order(NONE), seven dead ahead", x.order(-1), 8);
         due("order(7), seven dead ahead", x.order(7), 7);
+    }
+
+    private static void orderAnew() {
+        checks.says(16, "(0 to 7; NONE); NONE.");
+        ApproverWins x = of("c00g.", "", 5, 1, 5);
+        due("order(NONE)", x.order(-1), 1);
+        x.set(1, 2);
+        due("order(NONE), one WIN too many now", x.order(-1), -1);
+        due("order(0), one WIN too many now", x.order(0), -1);
+        x.set(1, 1);
+        due("order(NONE), not too many again", x.order(-1), 1);
+        Checks.put(x, 0, "d00g.");
+        due("order(NONE), dead now", x.order(-1), -1);
+        Checks.put(x, 0, "r05g.");
+        due("order(NONE), rich now", x.order(-1), 1);
+        x.set(0, 0);
+        Checks.put(x, 0, "r95g.");
+        due("order(NONE), he would lose, but it SETTLES", x.order(-1), 1);
+        x.set(2, 6);
+        due("order(NONE), by a greater BRIBE", x.order(-1), -1);
+        x.set(0, 2);
+        due("order(NONE), by 1 sixteenth", x.order(-1), 1);
+        x.undo(0);
+        due("order(NONE), not ended", x.order(-1), -1);
+        x.type(0, '.');
+        due("order(NONE), ended again", x.order(-1), 1);
+        x.wipe(0);
+        due("order(NONE), wiped", x.order(-1), -1);
+        x = of(Checks.EIGHT.replace("f00", "f70"), "", 0, 8, 5);
+        due("order(NONE), the least chance there is", x.order(-1), 8);
+        due("order(7), the least chance there is", x.order(7), 7);
     }
 
     private static void best() {
@@ -750,6 +782,13 @@ public final class BoundariesTest {
         due("digest(), NAMES with a FAULT", x.digest(), digestByCalls(x));
         x.undo(1);
         due("digest(), ordinary", x.digest(), digestByCalls(x));
+        for (int strong = 0; strong <= 9; strong++) {
+            // By 0 to 9, and by 3 to 12 sixteenths: rule() and gaols() differ among these.
+            x = of("f80i.;f50i.", "a", strong, 1, 5);
+            due("digest(), by " + strong + " sixteenths", x.digest(), digestByCalls(x));
+            Checks.put(x, 1, "b");
+            due("digest(), by 3 more than " + strong, x.digest(), digestByCalls(x));
+        }
         long before = x.digest();
         x.sheet(0, 0, 60);
         x.get(0, 1, 0);

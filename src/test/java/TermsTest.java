@@ -512,6 +512,10 @@ public final class TermsTest {
         checks.due("ORDER with a dead one behind", orderOf(of("c00g.;d00g.", "", 5, 1, 5)), "1: 0 -1 -1 -1 -1 -1 -1 -1");
         checks.due("ORDER of sure FIGHTS", orderOf(of("f10g.;f00g.", "", 9, 1, 5)), "1: 0 -1 -1 -1 -1 -1 -1 -1");
         checks.due("ORDER does not look at THE NAMES", orderOf(of("c00g.;c00g.", "ba", 5, 1, 5)), "1: 0 -1 -1 -1 -1 -1 -1 -1");
+        // Behind the first he is weaker, and a confession makes that good: 11 and 11 sixteenths.
+        checks.due("ORDER with a confession between", orderOf(of("f40g.;f40g.;c60g.", "", 7, 3, 5)), "3: 0 2 1 -1 -1 -1 -1 -1");
+        // 5 and 7 sixteenths are more than 8 and 4; the dead one takes none of his strength.
+        checks.due("ORDER with a dead one ahead", orderOf(of("f20g.;d10g.;f50g.", "", 2, 2, 5)), "3: 1 2 0 -1 -1 -1 -1 -1");
         checks.says(0, "(as told: his WINS are all there behind the last of these)");
         ApproverWins late = of("d00g.;d00g.;f00g.", "", 9, 1, 5);
         checks.due("ORDER ends with the last of his WINS", orderOf(late), "3: 0 1 2 -1 -1 -1 -1 -1");
@@ -644,6 +648,8 @@ public final class TermsTest {
         due("ask(), FELONS with a FAULT", Checks.of("r05g.;", "a").ask(), -1);
         due("ask(), none named", Checks.of("r05g.;r04g.", "").ask(), 0);
         due("ask(), one that is not named is alike by all", Checks.of("r05g.;r05g.", "b").ask(), 1);
+        due("ask(), a dead one is alike by all", Checks.of("d00g.;r05g.", "ab").ask(), 1);
+        due("ask(), a VOID one is alike by all", of("c00g.;r05g.;r05g.", "abc", 5, 1, 5).ask(), 0);
         due("ask(), of like ones the least", Checks.of("f00g.;r05g.;r05g.", "abc").ask(), 1);
         due("ask(), 6 and 4 is like 4 and 6", Checks.of("f00g.;r03g.;r05g.", "abc").ask(), 1);
         due("ask(), the last of 8", Checks.of(Checks.EIGHT.substring(0, 42) + "r04g.", "abcdefgh").ask(), 0);
